@@ -174,6 +174,19 @@ public final class GroundTest {
         due.is("a number again", x.sky(100, 1), 0);
         due.is("60 has 50 and 100", x.sky(70, 1), 8);
         due.is("150 has 100 and 200", x.sky(150, 1), 1);
+
+        SeaLand y = new SeaLand();
+        y.weather(false, 5, 9);
+        y.weather(false, 5, SeaLand.NONE);
+        due.is("its own earlier number is none", y.sky(6, 1), 0);
+        y.weather(false, 40000, 4);
+        due.is("the last hour", y.sky(6, 1), 4);
+        y.weather(false, 30, 2);
+        y.weather(false, 35, 8);
+        due.is("the nearest behind, not the latest told", y.sky(6, 1), 2);
+        y.weather(false, 4, 3);
+        y.weather(false, 0, 7);
+        due.is("the nearest ahead, not the latest told", y.sky(6, 1), 3);
     }
 
     private static void hours() {
@@ -235,6 +248,22 @@ public final class GroundTest {
         due.is("not more than there is", w.square(13, 4), 2);
         due.is("11 is not beside 12", w.square(11, 4), 50);
 
+        flows(12, 11, 0);
+        flows(11, 12, 0);
+        flows(13, 12, 5);
+        flows(12, 13, 5);
+        flows(1, 0, 5);
+        flows(10, 11, 5);
+        flows(11, 10, 5);
+        flows(0, 12, 5);
+        flows(12, 0, 5);
+        flows(83, 95, 5);
+        flows(95, 83, 5);
+        flows(95, 94, 5);
+        flows(84, 85, 5);
+        flows(50, 61, 0);
+        flows(50, 63, 0);
+
         SeaLand v = new SeaLand();
         v.land(0, 1, 0, 0, 20);
         v.fill(0, 3, 0);
@@ -242,6 +271,28 @@ public final class GroundTest {
         due.is("half of 3", v.square(1, 4), 1);
         v.hours(1);
         due.is("half of 1", v.square(0, 4), 2);
+    }
+
+    private static void flows(int from, int to, int want) {
+        SeaLand x = new SeaLand();
+        x.land(from, from, 0, 0, 9);
+        x.land(to, to, 0, 0, 9);
+        x.fill(from, 10, 0);
+        x.hours(1);
+        due.is("from " + from + " to " + to, x.square(to, 4), want);
+        due.is("from " + from, x.square(from, 4), 10 - want);
+        SeaLand y = new SeaLand();
+        y.land(from, from, 0, 0, 0);
+        y.land(to, to, 0, 0, 9);
+        y.fill(from, 10, 0);
+        y.hours(1);
+        due.is("no ditch at " + from, y.square(to, 4), 0);
+        SeaLand z = new SeaLand();
+        z.land(from, from, 0, 0, 1);
+        z.land(to, to, 0, 0, 9);
+        z.fill(from, 10, 0);
+        z.hours(1);
+        due.is("a ditch of 1 at " + from, z.square(to, 4), want == 0 ? 0 : 1);
     }
 
     private static void days() {
@@ -267,7 +318,14 @@ public final class GroundTest {
         due.is("wet", x.square(0, 8), 1);
         due.is("salt stays in water", x.square(0, 5), 100);
         due.is("others are not wet", x.square(1, 8), 0);
-        due.is("clay at eleven", x.square(1, 1), -1);
+        x.fill(2, 0, 10000);
+        due.is("salt of all", x.count(5), 10100);
+        x.hours(24);
+        due.is("a hundredth", x.square(2, 5), 9900);
+        x.fill(2, 0, 99);
+        x.hours(24);
+        due.is("less than a hundred stay", x.square(2, 5), 99);
+        due.is("clay at thirteen", x.square(1, 1), -1);
         x.weather(true, 0, 2);
         x.hours(24);
         due.is("rain", x.square(1, 4), 48);

@@ -124,6 +124,7 @@ public final class LawTest {
         wrong("call if age + < 3", 14);
         wrong("call if age < 123456", 14);
         wrong("call if ages < 1", 8);
+        wrong("call if agez < 1", 8);
         wrong("call if age < sun", 14);
         wrong("call if 1 < 2 < 3", 14);
         wrong("call if (age<3", 14);
@@ -198,6 +199,19 @@ public final class LawTest {
             due.is(is[i], holds(x, 1, two + " > " + halves(2 * of1[i]) + " or " + two + "<" + halves(2 * of1[i])), false);
             due.is(is[i], holds(x, 0, is[i] + " + 1 > " + halves(of0[i])), true);
         }
+        SeaLand y = new SeaLand();
+        Due.found(y, "dues 203;mark 1 if acres>2 and acres<4;mark 10 if gain>149 and gain<151;"
+                + "mark 100 if owes>52 and owes<54;mark 1000 if near>1 and near<3;mark 10000 if coin<1");
+        y.land(0, 14, 0, 0, 0);
+        y.farm(0, 2);
+        y.dike(14, 26, 13, 1);
+        y.settler(1, 1, 0, 1, false, false, 1);
+        due.is("no facts yet", y.rules(0, 3), 10000);
+        y.choose(1);
+        y.sow(0, 2);
+        y.harvest();
+        due.is("near", y.who(0, 5), 1);
+        due.is("of a holder", y.rules(0, 3), 10111);
     }
 
     private static String halves(int n) {
@@ -219,8 +233,19 @@ public final class LawTest {
         due.is("not not", holds(x, 0, "not not 1<2"), true);
         due.is("sums", holds(x, 0, "age+sons+1<20+sons+11"), false);
         due.is("sums", holds(x, 0, "age+sons+1<20+sons+12"), true);
-        due.is("deep", holds(x, 0, "2<1 or 1<2 and (2<1 or 1<2 and (2<1 or 1<2 and (2<1 or 1<2 and (2<1 or 1<2 and"
-                + "(2<1 or 1<2 and 1+1+1 < 2+1+1)))))"), true);
+        due.is("not of more", holds(x, 0, "not age > 3"), false);
+        due.is("more and more", holds(x, 0, "age > 3 and sons > 1 and not (age > 3 and sons > 2)"), true);
+        due.is("deep", holds(x, 0, "2<1 or 1<2 and (2<1 or 1<2 and (2<1 or 1<2 and (2<1 or 1<2 and (2<1 or 1<2 and (2<1 or 1<2 and"
+                + "(2<1 or 1<2 and 1+1+1 < 2+1+1))))))"), true);
+        StringBuilder long0 = new StringBuilder("1<2");
+        for (int i = 0; i < 60; i++) {
+            long0.append(i % 2 == 0 ? "or 2<1" : "and 2<1");
+        }
+        for (int i = 0; i < 12; i++) {
+            due.is("long", holds(x, 0, long0.substring(0, 380) + " or age > 30"), true);
+            due.is("and at once a short one", holds(x, 0, "age > 30"), false);
+            due.is("and another", holds(x, 0, "age < 31"), true);
+        }
         due.is("out of brackets", holds(x, 0, "(((2<1))) or ((1<2) and (not(2<1)))"), true);
     }
 
@@ -292,6 +317,9 @@ public final class LawTest {
         Due.found(x, "bar 18;bar 2");
         due.is("no dike", x.mayBuild(14), true);
         x.dike(13, 12, 14, 5);
+        Due.found(x, "");
+        due.is("no law", x.mayBuild(13), true);
+        Due.found(x, "bar 18;bar 2");
         due.is("on it", x.mayBuild(13), false);
         due.is("beside", x.mayBuild(14), false);
         due.is("beside, the sea", x.mayBuild(1), false);
@@ -360,6 +388,12 @@ public final class LawTest {
         Due.propose(x, "");
         x.vote(0, true);
         due.is("100 cannot be passed", x.close(), false);
+
+        SeaLand z = withHolders("votes 102 if sons<1;votes 99 if sons>0", 2);
+        Due.propose(z, "");
+        due.is("yes", z.vote(0, true), 102);
+        due.is("no", z.vote(1, false), 99);
+        due.is("a little more than half", z.close(), true);
 
         SeaLand y = withHolders("votes 4;pass 0", 2);
         Due.propose(y, "dues 1;dues 2;dues 3");

@@ -71,6 +71,7 @@ public final class PeopleTest {
         y.land(0, 13, 0, 0, 0);
         due.none("sea", y.farm(0, 2));
         due.none("sea alone", y.farm(50, 50));
+        due.none("sea at the first square", new SeaLand().farm(0, 0));
         due.is("land", y.farm(0, 13), 0);
         due.wrongIndex("worth of none", () -> y.worth(1));
         due.wrongIndex("worth of none", () -> y.worth(-1));
@@ -124,6 +125,27 @@ public final class PeopleTest {
         due.none("out", x.who(2, 0));
         due.is("holders", x.count(8), 5);
         due.is("acres", x.who(3, 4), 2);
+        SeaLand y = new SeaLand();
+        Due.found(y, "out if age > 70;mark 1 if age < 30");
+        y.land(0, 0, 0, 0, 0);
+        y.farm(0, 0);
+        y.settler(71, 0, 0, 0, false, false, 0);
+        y.settler(40, 0, 0, 0, false, false, 0);
+        due.is("not the first, who is out", y.choose(1), 1);
+        due.is("the second", y.who(1, 0), 0);
+        due.is("its acres", y.who(1, 4), 1);
+        due.is("its nearness", y.who(1, 5), 99);
+        y.dike(0, 1, 12, 5);
+        SeaLand z = new SeaLand();
+        Due.found(z, "mark 1 if age < 30");
+        z.land(0, 1, 0, 0, 0);
+        z.farm(0, 0);
+        z.settler(20, 0, 0, 0, false, false, 9);
+        z.settler(40, 0, 0, 0, false, false, 0);
+        z.choose(1);
+        due.is("the first by its mark", z.who(0, 0), 0);
+        z.dike(1, 2, 0, 5);
+        due.is("near", z.who(0, 5), 1);
         due.wrongNumber("n", () -> x.choose(61));
         due.wrongNumber("n", () -> x.choose(-1));
     }
@@ -298,6 +320,15 @@ public final class PeopleTest {
             x.hours(240);
         }
         due.is("not in this one", x.harvest(), 0);
+        for (int i = 0; i < 36; i++) {
+            x.hours(240);
+        }
+        due.is("year 3", x.harvest(), 0);
+        for (int i = 0; i < 36; i++) {
+            x.hours(240);
+        }
+        due.is("year 4", x.harvest(), 0);
+        due.none("year 4", x.harvest());
     }
 
     private static void near() {
@@ -334,6 +365,17 @@ public final class PeopleTest {
         for (int i = 0; i < 5; i++) {
             due.is("rank " + i, x.arrears(i), want[i]);
         }
+        SeaLand y = new SeaLand();
+        Due.found(y, "dues 1;dues 1 if sons>0");
+        y.land(0, 11, 0, 0, 0);
+        for (int i = 0; i < 2; i++) {
+            y.farm(i, i);
+            y.settler(1, i, 0, 0, false, false, i);
+        }
+        y.choose(2);
+        y.harvest();
+        due.is("2 are more", y.arrears(0), 1);
+        due.is("than 1", y.arrears(1), 0);
         due.none("below", x.arrears(-1));
         due.none("far", x.arrears(Integer.MAX_VALUE));
     }

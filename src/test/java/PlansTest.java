@@ -47,6 +47,13 @@ public final class PlansTest {
         due.is("the first five alone", x.lifts(13 + 180 + 17, 0, 1, 0), 5);
         due.none("the first five alone", x.lifts(13 + 180 + 18, 0, 1, 0));
         due.is("the sixth counts for nothing", x.lifts(13 + 61, 0, 1, 0), 2);
+        SeaLand y = new SeaLand();
+        y.land(0, 23, 0, 0, 0);
+        for (int i = 0; i < 5; i++) {
+            y.mill(i, i + 12, 20, true);
+        }
+        due.is("all of them, always", y.lifts(0, 100, 24, 0), 120);
+        due.is("but the last one", y.lifts(0, 100, 24, 20), 119);
         due.wrongNumber("has", () -> x.lifts(-1, 0, 1, 0));
         due.wrongNumber("has", () -> x.lifts(1001, 0, 1, 0));
         due.wrongNumber("comes", () -> x.lifts(0, 101, 1, 0));
@@ -126,6 +133,10 @@ public final class PlansTest {
         SeaLand y = withBreach(40);
         due.is("width", y.work(0, 5), 60);
         due.is("the last hour", y.soonest(0, 4, 0), 100);
+        y.storm(41, 180, 10);
+        due.is("200 hours on", y.soonest(0, 4, 0), 240);
+        y.storm(181, 181, 10);
+        due.none("201 hours on", y.soonest(0, 4, 0));
         for (int i = 0; i < 12; i++) {
             y.tide(i, 10);
         }

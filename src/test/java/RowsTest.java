@@ -7,6 +7,7 @@ public final class RowsTest {
         torn();
         whatIsTold();
         image();
+        imageOfWorks();
         imageOfTheSky();
         due.end();
     }
@@ -56,6 +57,9 @@ public final class RowsTest {
         due.is("check", x.check(), 96 * 5 + 3);
         due.is("torn by nothing", x.tear(1, 1, 0), 0);
         due.is("check", x.check(), 96 * 5 + 3);
+        due.is("the very first", x.tear(0, 0, 1), -9);
+        due.is("check", x.check(), 0);
+        due.is("the very first", x.tear(0, 0, 1), -10);
         due.is("torn earlier", x.tear(2, 95, -1), -1);
         due.is("check", x.check(), 96 * 2 + 95);
         due.is("torn in the same row", x.tear(2, 0, Integer.MIN_VALUE), -10 ^ Integer.MIN_VALUE);
@@ -189,6 +193,40 @@ public final class RowsTest {
         x.back();
         due.is("the later one", shown(x).equals(later), true);
         due.is("again and again", x.back(), true);
+    }
+
+    private static void imageOfWorks() {
+        SeaLand x = new SeaLand();
+        x.land(13, 16, -10, 0, 0);
+        x.dike(13, 12, 14, 5);
+        x.hours(3);
+        due.is("width", x.work(0, 5), 8);
+        x.keep();
+        x.hours(3);
+        due.is("width", x.work(0, 5), 14);
+        x.back();
+        due.is("width of then", x.work(0, 5), 8);
+        x.mill(15, 16, 5, true);
+        x.coal(1, 5);
+        x.turn(1, true);
+        x.fill(15, 50, 0);
+        x.hours(1);
+        due.is("lifted", x.work(1, 4), 5);
+        x.back();
+        due.wrongIndex("gone", () -> x.work(1, 0));
+        due.none("gone", x.square(15, 10));
+        due.is("built anew", x.mill(16, 15, 9, true), 1);
+        int[] want = {3, 16, 0, 0, 0, 9, 0, 0};
+        for (int what = 0; what < 8; what++) {
+            due.is("anew " + what, x.work(1, what), want[what]);
+        }
+        x.back();
+        x.dike(15, 3, 14, 7);
+        x.layer(1, 5, 5);
+        x.back();
+        x.dike(15, 3, 14, 7);
+        due.is("no layers", x.work(1, 6), 0);
+        due.is("crest", x.work(1, 5), -10);
     }
 
     private static void imageOfTheSky() {

@@ -227,7 +227,7 @@ public final class WorksTest {
             due.is("coal", x.coal(0, 10000), i * 10000);
         }
         due.wrongNumber("above all", () -> x.coal(0, 1));
-        due.wrongNumber("too much", () -> x.coal(0, 10001));
+        due.wrongNumber("too much at once", () -> fresh().coal(0, 10001));
         due.wrongNumber("below", () -> x.coal(0, -1));
         x.fill(0, 100, 110);
         x.hours(1);
@@ -247,6 +247,13 @@ public final class WorksTest {
         due.is("off already", x.turn(0, false), false);
         x.hours(1);
         due.is("burns no more", x.work(0, 6), 99997);
+    }
+
+    private static SeaLand fresh() {
+        SeaLand x = new SeaLand();
+        x.land(0, 0, 0, 0, 0);
+        x.mill(0, 1, 60, true);
+        return x;
     }
 
     private static void sluices() {
