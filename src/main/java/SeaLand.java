@@ -303,8 +303,9 @@ public final class SeaLand {
     // ---- the law and the vote -------------------------------------------------------------------
 
     public int found() throws IllegalArgumentException, IllegalStateException {
-        boolean right = readTape();
-        needNumbers(right);
+        board.fault = board.spare.read(tape, taped);
+        taped = 0;
+        needNumbers(board.fault == NONE);
         if (board.holding > 0) {
             throw new IllegalStateException("there are holders");
         }
@@ -312,18 +313,13 @@ public final class SeaLand {
     }
 
     public int propose() throws IllegalArgumentException, IllegalStateException {
-        boolean right = readTape();
-        needNumbers(right);
+        board.fault = board.spare.read(tape, taped);
+        taped = 0;
+        needNumbers(board.fault == NONE);
         if (board.voting) {
             throw new IllegalStateException("a vote goes on");
         }
         return board.proposeSpare();
-    }
-
-    private boolean readTape() {
-        int length = taped;
-        taped = 0;
-        return board.readSpare(tape, length);
     }
 
     public int fault() {
@@ -1370,6 +1366,8 @@ public final class SeaLand {
         static final int PASS = 8;
         static final int BAR = 9;
 
+        // The things a text is made of. The facts stand ahead of these, by their places among FACTS;
+        // facts, numbers and all from ADD to OR are steps of a condition, too.
         private static final int FACTS = 10;
         private static final int ADD = 10;
         private static final int LESS = 11;
@@ -1377,8 +1375,17 @@ public final class SeaLand {
         private static final int NOT = 13;
         private static final int AND = 14;
         private static final int OR = 15;
-        // A step of this or above is a NUMBER: what it is above.
-        private static final int NUMBER = 16;
+        private static final int OPEN = 16;
+        private static final int SHUT = 17;
+        private static final int NEXT = 18;
+        private static final int IF = 19;
+        private static final int IN = 20;
+        private static final int END = 21;
+        private static final int WRONG = 22;
+        // A line's first word is this and its kind; gain, which is a fact as well, is told by the fact.
+        private static final int LINE = 30;
+        private static final int GAIN_FACT = 1;
+        private static final int NUMBER = 40;
 
         private static final int DEEPEST = 6;
         private static final int MOST_DIGITS = 5;
@@ -1386,99 +1393,210 @@ public final class SeaLand {
         // Each ( keeps one side of an or and one of an and waiting; three numbers wait inside a sum.
         private static final int STACK = 2 * DEEPEST + 8;
 
+        private final int[] things = new int[MOST_TAPE + 1];
+        private final int[] begins = new int[MOST_TAPE + 1];
         private final int[] kinds = new int[MOST_LINES];
         private final int[] firsts = new int[MOST_LINES];
         private final int[] seconds = new int[MOST_LINES];
         private final int[] froms = new int[MOST_LINES];
         private final int[] tos = new int[MOST_LINES];
-        private final int[] begins = new int[MOST_LINES];
-        private final int[] ends = new int[MOST_LINES];
+        private final int[] stepFrom = new int[MOST_LINES];
+        private final int[] stepTo = new int[MOST_LINES];
         private final int[] steps = new int[MOST_TAPE];
         private final long[] stack = new long[STACK];
         private int lines;
         private int stepped;
-        private int[] text;
-        private int length;
-        // Stands at the begin of the first wrong thing when a reading method answers false.
+        // The thing that comes next; the first wrong one when a reading method answers false.
         private int at;
 
         /** The first wrong byte, or NONE. */
-        int read(int[] newText, int newLength) {
-            text = newText;
-            length = Math.min(newLength, newText.length);
+        int read(int[] text, int length) {
+            scan(text, Math.min(length, MOST_TAPE));
             at = 0;
             lines = 0;
             stepped = 0;
-            skipBlanks();
-            return at == length || readLines() ? NONE : at;
+            boolean more = things[0] != END;
+            while (more && lines < MOST_LINES) {
+                if (!readLine()) {
+                    return begins[at];
+                }
+                lines++;
+                more = take(NEXT);
+            }
+            return more || things[at] != END ? begins[at] : NONE;
         }
 
-        private boolean readLines() {
-            for (int n = 0; n <= MOST_LINES; n++) {
-                if (!readLine()) {
+        private void scan(int[] text, int length) {
+            int n = 0;
+            int end = 0;
+            for (int i = 0; i < length; i++) {
+                if (i >= end && text[i] != ' ') {
+                    end = thingEnd(text, i, length);
+                    things[n] = thingAt(text, i, end);
+                    begins[n] = i;
+                    n++;
+                }
+            }
+            things[n] = END;
+            begins[n] = length;
+        }
+
+        private static boolean isLetter(int sign) {
+            return 'a' <= sign && sign <= 'z';
+        }
+
+        private static boolean isDigit(int sign) {
+            return '0' <= sign && sign <= '9';
+        }
+
+        private static int thingEnd(int[] text, int from, int length) {
+            boolean word = isLetter(text[from]);
+            boolean number = isDigit(text[from]);
+            int end = from + 1;
+            while (end < length && (word && isLetter(text[end]) || number && isDigit(text[end]))) {
+                end++;
+            }
+            return end;
+        }
+
+        private static int thingAt(int[] text, int from, int end) {
+            if (isLetter(text[from])) {
+                return wordThing(text, from, end);
+            }
+            return isDigit(text[from]) ? numberThing(text, from, end) : signThing(text[from]);
+        }
+
+        private static int numberThing(int[] text, int from, int end) {
+            if (end - from > MOST_DIGITS) {
+                return WRONG;
+            }
+            int number = 0;
+            for (int i = from; i < end; i++) {
+                number = number * 10 + text[i] - '0';
+            }
+            return NUMBER + number;
+        }
+
+        private static int signThing(int sign) {
+            switch (sign) {
+                case '+':
+                    return ADD;
+                case '<':
+                    return LESS;
+                case '>':
+                    return MORE;
+                case '(':
+                    return OPEN;
+                case ')':
+                    return SHUT;
+                case ';':
+                    return NEXT;
+                default:
+                    return WRONG;
+            }
+        }
+
+        private static int wordThing(int[] text, int from, int end) {
+            int thing = factThing(text, from, end);
+            if (thing == NONE) {
+                thing = lineThing(text, from, end);
+            }
+            if (thing == NONE) {
+                thing = wordIs("if", text, from, end) ? IF : wordIs("in", text, from, end) ? IN
+                        : wordIs("not", text, from, end) ? NOT : wordIs("and", text, from, end) ? AND
+                        : wordIs("or", text, from, end) ? OR : WRONG;
+            }
+            return thing;
+        }
+
+        private static int factThing(int[] text, int from, int end) {
+            return wordIs("acres", text, from, end) ? 0 : wordIs("gain", text, from, end) ? GAIN_FACT
+                    : wordIs("age", text, from, end) ? 2 : wordIs("sons", text, from, end) ? 3
+                    : wordIs("coin", text, from, end) ? 4 : wordIs("cattle", text, from, end) ? 5
+                    : wordIs("kin", text, from, end) ? 6 : wordIs("board", text, from, end) ? 7
+                    : wordIs("near", text, from, end) ? 8 : wordIs("owes", text, from, end) ? 9 : NONE;
+        }
+
+        private static int lineThing(int[] text, int from, int end) {
+            int kind = wordIs("dues", text, from, end) ? DUES : wordIs("votes", text, from, end) ? VOTES
+                    : wordIs("fine", text, from, end) ? FINE : wordIs("mark", text, from, end) ? MARK
+                    : wordIs("call", text, from, end) ? CALL : wordIs("out", text, from, end) ? OUT
+                    : wordIs("level", text, from, end) ? LEVEL : wordIs("pass", text, from, end) ? PASS
+                    : wordIs("bar", text, from, end) ? BAR : NONE;
+            return kind == NONE ? NONE : LINE + kind;
+        }
+
+        private static boolean wordIs(String word, int[] text, int from, int end) {
+            if (end - from != word.length()) {
+                return false;
+            }
+            for (int i = 0; i < word.length(); i++) {
+                if (text[from + i] != word.charAt(i)) {
                     return false;
                 }
-                if (!takeSign(';')) {
-                    return at == length;
-                }
             }
-            return false;
-        }
-
-        private boolean readLine() {
-            skipBlanks();
-            int kind = lines < MOST_LINES ? lineKind() : NONE;
-            if (kind == NONE) {
-                return false;
-            }
-            at = wordEnd();
-            kinds[lines] = kind;
-            begins[lines] = stepped;
-            if (!readRest(kind)) {
-                return false;
-            }
-            ends[lines] = stepped;
-            lines++;
             return true;
         }
 
-        private int lineKind() {
-            int kind = wordIs("dues") ? DUES : wordIs("gain") ? GAIN : wordIs("votes") ? VOTES : NONE;
-            if (kind == NONE) {
-                kind = wordIs("fine") ? FINE : wordIs("mark") ? MARK : wordIs("call") ? CALL : NONE;
-            }
-            if (kind == NONE) {
-                kind = wordIs("out") ? OUT : wordIs("level") ? LEVEL : wordIs("pass") ? PASS : NONE;
-            }
-            return kind == NONE && wordIs("bar") ? BAR : kind;
-        }
-
-        private boolean readRest(int kind) {
-            if (kind == LEVEL) {
-                return readNumber(900, firsts) && readNumber(900, seconds) && takeWord("in")
-                        && readNumber(SQUARES - 1, froms) && readNumber(SQUARES - 1, tos);
-            }
-            if (kind == PASS) {
-                return readNumber(100, firsts);
-            }
-            if (kind == BAR) {
-                return readNumber(18, firsts);
-            }
-            if (kind < CALL && !readNumber(MOST_NUMBER, firsts)) {
+        // The last thing is END, which is never taken, so that there is always a next one.
+        private boolean take(int thing) {
+            if (things[at] != thing) {
                 return false;
             }
-            return !takeWord("if") || readAny(0);
+            at++;
+            return true;
         }
 
-        private boolean readNumber(int most, int[] into) {
-            int number = takeNumber(most);
+        private boolean takeNumber(int most, int[] into) {
+            int number = things[at] - NUMBER;
+            if (number < 0 || number > most) {
+                return false;
+            }
             into[lines] = number;
-            return number != NONE;
+            at++;
+            return true;
+        }
+
+        private static int lineKind(int thing) {
+            if (thing == GAIN_FACT) {
+                return GAIN;
+            }
+            return LINE <= thing && thing <= LINE + BAR ? thing - LINE : NONE;
+        }
+
+        private boolean readLine() {
+            int kind = lineKind(things[at]);
+            if (kind == NONE) {
+                return false;
+            }
+            at++;
+            kinds[lines] = kind;
+            stepFrom[lines] = stepped;
+            stepTo[lines] = stepped;
+            switch (kind) {
+                case LEVEL:
+                    return takeNumber(900, firsts) && takeNumber(900, seconds) && take(IN)
+                            && takeNumber(SQUARES - 1, froms) && takeNumber(SQUARES - 1, tos);
+                case PASS:
+                    return takeNumber(100, firsts);
+                case BAR:
+                    return takeNumber(18, firsts);
+                case CALL:
+                case OUT:
+                    break;
+                default:
+                    if (!takeNumber(MOST_NUMBER, firsts)) {
+                        return false;
+                    }
+            }
+            boolean right = !take(IF) || readAny(0);
+            stepTo[lines] = stepped;
+            return right;
         }
 
         private boolean readAny(int depth) {
             boolean right = readAll(depth);
-            for (int n = 0; n < MOST_TAPE && right && takeWord("or"); n++) {
+            for (int n = 0; n < MOST_TAPE && right && take(OR); n++) {
                 right = readAll(depth);
                 addStep(OR);
             }
@@ -1487,7 +1605,7 @@ public final class SeaLand {
 
         private boolean readAll(int depth) {
             boolean right = readAtom(depth);
-            for (int n = 0; n < MOST_TAPE && right && takeWord("and"); n++) {
+            for (int n = 0; n < MOST_TAPE && right && take(AND); n++) {
                 right = readAtom(depth);
                 addStep(AND);
             }
@@ -1495,39 +1613,39 @@ public final class SeaLand {
         }
 
         private boolean readAtom(int depth) {
-            skipBlanks();
-            boolean not = wordIs("not");
-            if (!not && !signIs('(')) {
+            boolean not = things[at] == NOT;
+            if (!not && things[at] != OPEN) {
                 return readComparison();
             }
             if (depth >= DEEPEST) {
                 return false;
             }
+            at++;
             if (not) {
-                at = wordEnd();
                 boolean right = readAtom(depth + 1);
                 addStep(NOT);
                 return right;
             }
-            at++;
-            return readAny(depth + 1) && takeSign(')');
+            return readAny(depth + 1) && take(SHUT);
         }
 
         private boolean readComparison() {
             if (!readSum()) {
                 return false;
             }
-            int step = takeSign('<') ? LESS : takeSign('>') ? MORE : NONE;
-            if (step == NONE || !readSum()) {
+            int step = things[at];
+            if (step != LESS && step != MORE) {
                 return false;
             }
+            at++;
+            boolean right = readSum();
             addStep(step);
-            return true;
+            return right;
         }
 
         private boolean readSum() {
             boolean right = readPart();
-            for (int n = 0; n < MOST_TAPE && right && takeSign('+'); n++) {
+            for (int n = 0; n < MOST_TAPE && right && take(ADD); n++) {
                 right = readPart();
                 addStep(ADD);
             }
@@ -1535,33 +1653,13 @@ public final class SeaLand {
         }
 
         private boolean readPart() {
-            skipBlanks();
-            if (at < length && isDigit(text[at])) {
-                int number = takeNumber(MOST_NUMBER);
-                if (number == NONE) {
-                    return false;
-                }
-                addStep(NUMBER + number);
-                return true;
-            }
-            int fact = factKind();
-            if (fact == NONE) {
+            int part = things[at];
+            if (part >= FACTS && part < NUMBER) {
                 return false;
             }
-            at = wordEnd();
-            addStep(fact);
+            addStep(part);
+            at++;
             return true;
-        }
-
-        private int factKind() {
-            int fact = wordIs("acres") ? 0 : wordIs("gain") ? 1 : wordIs("age") ? 2 : NONE;
-            if (fact == NONE) {
-                fact = wordIs("sons") ? 3 : wordIs("coin") ? 4 : wordIs("cattle") ? 5 : NONE;
-            }
-            if (fact == NONE) {
-                fact = wordIs("kin") ? 6 : wordIs("board") ? 7 : wordIs("near") ? 8 : NONE;
-            }
-            return fact == NONE && wordIs("owes") ? 9 : fact;
         }
 
         private void addStep(int step) {
@@ -1571,76 +1669,9 @@ public final class SeaLand {
             }
         }
 
-        private void skipBlanks() {
-            while (at < length && text[at] == ' ') {
-                at++;
-            }
-        }
-
-        private static boolean isDigit(int sign) {
-            return '0' <= sign && sign <= '9';
-        }
-
-        private int wordEnd() {
-            int end = at;
-            while (end < length && 'a' <= text[end] && text[end] <= 'z') {
-                end++;
-            }
-            return end;
-        }
-
-        private boolean wordIs(String word) {
-            if (wordEnd() - at != word.length()) {
-                return false;
-            }
-            for (int i = 0; i < word.length(); i++) {
-                if (text[at + i] != word.charAt(i)) {
-                    return false;
-                }
-            }
-            return true;
-        }
-
-        private boolean takeWord(String word) {
-            skipBlanks();
-            if (!wordIs(word)) {
-                return false;
-            }
-            at += word.length();
-            return true;
-        }
-
-        private boolean signIs(char sign) {
-            return at < length && text[at] == sign;
-        }
-
-        private boolean takeSign(char sign) {
-            skipBlanks();
-            if (!signIs(sign)) {
-                return false;
-            }
-            at++;
-            return true;
-        }
-
-        private int takeNumber(int most) {
-            skipBlanks();
-            int number = 0;
-            int end = at;
-            while (end < length && isDigit(text[end])) {
-                number = end - at < MOST_DIGITS ? number * 10 + text[end] - '0' : number;
-                end++;
-            }
-            if (end == at || end - at > MOST_DIGITS || number > most) {
-                return NONE;
-            }
-            at = end;
-            return number;
-        }
-
         private boolean lineHolds(int line, long[] facts) {
             int top = 0;
-            for (int i = begins[line]; i < ends[line]; i++) {
+            for (int i = stepFrom[line]; i < stepTo[line]; i++) {
                 int step = steps[i];
                 if (step == NOT && top > 0) {
                     stack[top - 1] = 1 - stack[top - 1];
@@ -1747,6 +1778,7 @@ public final class SeaLand {
         private final long[] facts = new long[Law.FACTS];
         // For choosing alone: NONE stands for one that cannot be chosen (any more).
         private final int[] marks = new int[MOST_SETTLERS];
+        // Three laws change places, so that a wrong text, which is read into the spare one, spoils none that stands.
         private Law force = new Law();
         private Law proposed = new Law();
         private Law spare = new Law();
@@ -1761,12 +1793,6 @@ public final class SeaLand {
 
         Board() {
             Arrays.fill(farmOf, NONE);
-        }
-
-        // Three laws change places, so that a wrong text spoils none that stands.
-        boolean readSpare(int[] text, int length) {
-            fault = spare.read(text, length);
-            return fault == NONE;
         }
 
         int foundSpare() {
@@ -1953,7 +1979,8 @@ public final class SeaLand {
             int sum = 0;
             for (int i = 0; i < settled; i++) {
                 if (settlers[i].farm != NONE) {
-                    sum += reapFor(settlers[i], lake);
+                    sum += reapFor(settlers[i], lake.ground);
+                    payDues(settlers[i], lake);
                 }
                 settlers[i].came = false;
             }
@@ -1961,16 +1988,15 @@ public final class SeaLand {
             return sum;
         }
 
-        private int reapFor(Settler one, Lake lake) {
+        private int reapFor(Settler one, Ground ground) {
             int brought = 0;
             for (int square = 0; square < SQUARES; square++) {
                 if (farmOf[square] == one.farm) {
-                    brought += broughtBy(crops[one.farm], lake.ground.wet[square], lake.ground.salt[square]);
+                    brought += broughtBy(crops[one.farm], ground.wet[square], ground.salt[square]);
                 }
             }
             one.gain = brought;
             one.coin += brought;
-            payDues(one, lake);
             return brought;
         }
 
