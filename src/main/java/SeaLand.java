@@ -1304,7 +1304,7 @@ public final class SeaLand {
         void copyFrom(Lake other) {
             sky.copyFrom(other.sky);
             ground.copyFrom(other.ground);
-            for (int i = 0; i < MOST_WORKS; i++) {
+            for (int i = 0; i < other.built; i++) {
                 works[i].copyFrom(other.works[i]);
             }
             built = other.built;
@@ -1572,7 +1572,6 @@ public final class SeaLand {
             at++;
             kinds[lines] = kind;
             stepFrom[lines] = stepped;
-            stepTo[lines] = stepped;
             switch (kind) {
                 case LEVEL:
                     return takeNumber(900, firsts) && takeNumber(900, seconds) && take(IN)

@@ -187,6 +187,18 @@ public final class GroundTest {
         y.weather(false, 4, 3);
         y.weather(false, 0, 7);
         due.is("the nearest ahead, not the latest told", y.sky(6, 1), 3);
+
+        SeaLand z = new SeaLand();
+        z.weather(false, 200, 6);
+        z.weather(false, 100, SeaLand.NONE);
+        due.is("told first", z.sky(100, 1), 6);
+        for (int i = 3; i <= 60; i++) {
+            due.is("telling", z.weather(false, 300 + i, i % 2 == 0 ? SeaLand.NONE : i % 10), i);
+        }
+        due.is("of sixty", z.sky(100, 1), 6);
+        due.is("of sixty", z.sky(354, 1), 5);
+        due.is("of sixty", z.sky(40000, 1), 9);
+        due.is("of sixty", z.sky(359, 1), 9);
     }
 
     private static void hours() {

@@ -143,6 +143,12 @@ public final class LawTest {
         wrong("call if not(not(not(not age<3)))", 20);
         wrong("call if (1<2) and not(not(not(x", 30);
         wrong("call\tif", 4);
+        wrong("call if + < 3", 8);
+        wrong("call if < < 3", 8);
+        wrong(";".repeat(400), 0);
+        wrong("call if " + "1+".repeat(196), 400);
+        wrong("call if " + "1+".repeat(195) + "1<", 400);
+        right("call if " + "1+".repeat(194) + "1<9", 1);
     }
 
     private static void lines() {

@@ -339,6 +339,18 @@ public final class WorksTest {
         due.tooMany("a 31st sluice, where there is a work", () -> x.sluice(0, 1, 5));
         due.wrongNumber("a wrong 31st", () -> x.sluice(0, 1, 0));
         due.is("works", x.count(2), 30);
+        x.weather(false, 0, 9);
+        x.weather(true, 0, 20);
+        for (int i = 0; i < 30; i += 2) {
+            x.turn(i, true);
+            x.coal(i, 100);
+        }
+        x.hours(48);
+        due.is("the last mill", x.work(29, 4), 48 * 4);
+        due.is("the last engine", x.work(28, 4), 48 * 5);
+        due.is("its coal", x.work(28, 6), 52);
+        due.is("balance", x.count(4), 96 * 20 * 48);
+        due.is("in a plan", x.lifts(1000, 0, 24, 1000), 0);
     }
 
     private static void noSuchWork() {
