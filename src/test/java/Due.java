@@ -1,15 +1,51 @@
+import java.io.IOException;
+import java.nio.file.Files;
+import java.nio.file.Path;
+
 /** What the tests share: answers that are due, calls that must throw, and texts for the tape. */
 final class Due {
     interface Call {
         void run();
     }
 
+    interface CallWith {
+        void run(int n);
+    }
+
+    private static final Path DOC = Path.of("../shared/DOC.md");
+
     private int wrong;
+    private String document;
+    private String sentence = "";
+
+    /** The sentence of the document that the next answers are due by: it must stand there, word by word. */
+    void says(String words) {
+        sentence = " [" + words + "]";
+        if (document == null) {
+            document = readDocument();
+        }
+        if (!document.contains(words)) {
+            wrong++;
+            System.out.println("the document does not say: " + words);
+        }
+    }
+
+    private static String readDocument() {
+        try {
+            return Files.readString(DOC).replaceAll("\\s+", " ");
+        } catch (IOException e) {
+            return "";
+        }
+    }
+
+    private void tell(String what) {
+        wrong++;
+        System.out.println(what + sentence);
+    }
 
     void is(String call, long got, long want) {
         if (got != want) {
-            wrong++;
-            System.out.println(call + " answered " + got + ", due is " + want);
+            tell(call + " answered " + got + ", due is " + want);
         }
     }
 
@@ -29,9 +65,30 @@ final class Due {
             got = e.getClass();
         }
         if (got != want) {
-            wrong++;
-            System.out.println(call + " threw " + got + ", due is " + want);
+            tell(call + " threw " + got + ", due is " + want);
         }
+    }
+
+    /** The last numbers that are taken and the first that are not, on both sides. */
+    private void edges(String call, Class<?> want, int least, int most, CallWith run) {
+        for (int n : new int[] {Integer.MIN_VALUE, least - 1, most + 1, Integer.MAX_VALUE}) {
+            fails(call + " of " + n, want, () -> run.run(n));
+        }
+        for (int n : new int[] {least, least + (most - least) / 2, most}) {
+            fails(call + " of " + n, null, () -> run.run(n));
+        }
+    }
+
+    void numbers(String call, int least, int most, CallWith run) {
+        edges(call, IllegalArgumentException.class, least, most, run);
+    }
+
+    void indices(String call, int many, CallWith run) {
+        edges(call, IndexOutOfBoundsException.class, 0, many - 1, run);
+    }
+
+    void whats(String call, int most, CallWith run) {
+        edges(call, java.util.NoSuchElementException.class, 0, most, run);
     }
 
     void wrongIndex(String call, Call run) {
