@@ -211,19 +211,12 @@ public final class EdgesOfPlansTest {
         due.says("grass 20 less a fifth of what the depth is off 60, barley 50 less half of what it is off 120, rape 40 less a third off 100, "
                 + "none 0 (each rounded down, the part; not below 0)");
         due.says("each has a depth of 40, 80, 120 or 160 below its HEIGHT");
-        // The other square fixes the depth of the first one: both in one step of 0 with three of four depths out of reach.
         int[][] worths = {{0, 0, 0, 0}, {16, 16, 8, 0}, {10, 30, 50, 30}, {20, 34, 34, 20}};
         for (int crop = 0; crop <= 3; crop++) {
-            for (int depth = 0; depth < 4; depth++) {
-                int sum = NONE;
-                for (int other = 0; other < 4; other++) {
-                    sum = other == 3 - depth ? worths[crop][depth] + worths[crop][other] : sum;
-                }
-                // Heights 40 * (2 * depth - 3) apart: only pairs with depth - other alike that hold.
-                int apart = 40 * (depth - (3 - depth));
-                int want = bestPair(worths[crop], apart / 40);
-                due.is("crop " + crop + " apart " + apart, withFarm(crop, apart, 0).levels(0, 0), want);
-                due.is("at least that pair", want >= sum, true);
+            for (int apart = -4; apart <= 4; apart++) {
+                // With a step of 0 both depths are as far apart as the heights are.
+                due.is("crop " + crop + " apart " + apart, withFarm(crop, Math.max(0, 40 * apart), Math.max(0, -40 * apart)).levels(0, 0),
+                        bestPair(worths[crop], apart));
             }
         }
         for (int crop = 1; crop <= 3; crop++) {
