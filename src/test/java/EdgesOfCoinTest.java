@@ -165,6 +165,7 @@ public final class EdgesOfCoinTest {
     }
 
     private static void enough() {
+        due.says("times PRICE: if the COIN is enough; then the DIKE has a LAYER more");
         due.says("A CONTRACT is PAID: how much; NONE, and nothing happens, if it was, has no SPAN, or the COIN is not enough");
         SeaLand x = withContract(0, 7, 0);
         x.coin(699);

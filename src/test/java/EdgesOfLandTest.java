@@ -219,6 +219,7 @@ public final class EdgesOfLandTest {
         for (int hour = 0; hour < 24; hour++) {
             due.is("at first", x.sky(hour, 0), 0);
         }
+        due.says("TIDE: one of the twelve. IllegalArgumentException: it is none, or the level");
         due.numbers("at", 0, 11, n -> x.tide(n, 0));
         due.numbers("level", -400, 400, n -> x.tide(0, n));
         due.is("the last one", x.sky(0, 0), 400);
@@ -297,6 +298,7 @@ public final class EdgesOfLandTest {
             for (int i = 6; i <= 60; i++) {
                 due.is("telling", y.weather(rain, 40000, i % 9), i);
             }
+            due.says("how many tellings of it there are; NONE, and it is not told, if there are 60");
             due.none("a 61st", y.weather(rain, 0, 9));
             due.is("it is not told", y.sky(0, what), 0);
             due.none("a 61st, also of an hour that is told", y.weather(rain, 40000, 9));
@@ -325,6 +327,14 @@ public final class EdgesOfLandTest {
             }
         }
         due.says("(none there: 0; of one hour the latest telling alone counts, here too)");
+        SeaLand z = new SeaLand();
+        z.weather(false, 5, 4);
+        z.weather(false, 10, NONE);
+        due.is("the first telling is the nearest ahead", z.sky(10, 1), 4);
+        z.weather(false, 20, 3);
+        due.is("the lesser one behind", z.sky(10, 1), 4);
+        z.weather(false, 15, 6);
+        due.is("the last telling is the nearest behind", z.sky(10, 1), 6);
         SeaLand y = new SeaLand();
         y.weather(false, 0, NONE);
         due.is("none at all", y.sky(40000, 1), 0);
@@ -407,7 +417,7 @@ public final class EdgesOfLandTest {
         due.is("one ditch alone", left(0, 20, 20, 0, 0), 20);
         due.is("the other ditch alone", left(0, 20, 0, 0, 20), 20);
         due.is("below the mean", left(-900, 5, 20, -900, 20), 3);
-        due.says("gives to that LAND SQUARE with a DITCH beside it whose LEVEL is least (of several the least number)");
+        due.says("each LAND SQUARE with a DITCH gives to that LAND SQUARE with a DITCH beside it whose LEVEL is least (of several the least number)");
         int[] around = {28, 39, 41, 52};
         for (int mask = 1; mask < 16; mask++) {
             SeaLand x = land(40, 40, 0, 0, 20);
@@ -437,7 +447,7 @@ public final class EdgesOfLandTest {
     }
 
     private static void saltThatGoes() {
-        due.says("SALT times what leaves, by the WATER (as it was ahead of its leaving) and 10 together, rounded down");
+        due.says("What leaves a SQUARE takes SALT with it: SALT times what leaves, by the WATER (as it was ahead of its leaving) and 10 together, rounded down");
         int[][] cases = {{20, 30, 10}, {20, 29, 9}, {20, 2, 0}, {20, 3, 1}, {20, 100000, 33333}, {2, 12, 1}, {2, 11, 0}};
         for (int[] one : cases) {
             SeaLand x = land(40, 41, 0, 0, 20);
@@ -550,6 +560,7 @@ public final class EdgesOfLandTest {
         x.mill(3, 4, 1, false);
         x.mill(2, 3, 1, true);
         x.fill(0, 8, 77);
+        due.says("Of a SQUARE what 0 1 LAND, 0 SEA; 1 HEIGHT, 2 SOIL, 3 DITCH, 4 WATER, 5 SALT, 6 LEVEL, 7 DRY, 8 WET");
         int[] want = {1, -7, 2, 9, 8, 77, 1, 0, 0, 1, NONE};
         for (int what = 0; what <= 10; what++) {
             due.is("what " + what, x.square(0, what), want[what]);

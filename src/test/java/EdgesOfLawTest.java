@@ -181,6 +181,7 @@ public final class EdgesOfLawTest {
         due.says("pass 0 to 100; bar 0 to 18");
         bounds("pass ", 100, "");
         bounds("bar ", 18, "");
+        due.says("dues NUMBER [ if C ] | gain NUMBER [ if C ] | votes NUMBER [ if C ] | fine NUMBER [ if C ] | mark NUMBER [ if C ]");
         due.says("NUMBER: 1 to 5 digits");
         for (String kind : new String[] {"dues ", "gain ", "votes ", "fine ", "mark "}) {
             right(kind + "0", 1);
@@ -208,6 +209,28 @@ public final class EdgesOfLawTest {
         wrong("level 1 1", 9);
         wrong("level 1 1 in", 12);
         wrong("level 1 1 in 1", 14);
+        String[] words = {"in", "if", "and", "or", "not", "age", "dues", "call", "level", "x", "(", ")", "<", ">", "+", ";", "7"};
+        for (String word : words) {
+            if (!word.equals("in")) {
+                wrong("level 1 1 " + word + " 1 1", 10);
+            }
+            if (!word.equals("if") && !word.equals(";")) {
+                wrong("call " + word + " 1<2", 5);
+                wrong("dues 1 " + word + " 1<2", 7);
+            }
+            if (!word.equals("and") && !word.equals("or") && !word.equals(";") && !word.equals("+")) {
+                wrong("call if 1<2 " + word + " 3<4", 12);
+            }
+            if (!word.equals("<") && !word.equals(">") && !word.equals("+")) {
+                wrong("call if 1 " + word + " 2", 10);
+            }
+            if (!word.equals("not") && !word.equals("(") && !word.equals("age") && !word.equals("7")) {
+                wrong("call if " + word + " 1<2", 8);
+            }
+            if (!word.equals("dues") && !word.equals("call") && !word.equals("level")) {
+                wrong(word, 0);
+            }
+        }
     }
 
     private static void digits() {
@@ -395,7 +418,11 @@ public final class EdgesOfLawTest {
             due.is(n + " > age", holds(x, n + ">age"), n > 30);
             due.is("sum < " + n, holds(x, "age+sons+coin+cattle+kin+board<" + n + "+59"), 89 < n + 59);
         }
-        due.says("kin (1 or 0), board (1 or 0), as told (coin as it is now)");
+        due.says("SUM: PART { + PART }; PART: NUMBER | FACT. FACT: acres, gain, age, sons, coin, cattle, kin, board, near, owes");
+        due.is("parts", holds(x, "acres+gain+age+sons+coin+cattle+kin+board+near+owes < 189"), true);
+        due.is("parts", holds(x, "acres+gain+age+sons+coin+cattle+kin+board+near+owes > 187"), true);
+        due.is("both", holds(x, "188 < acres+gain+age+sons+coin+cattle+kin+board+near+owes"), false);
+        due.says("FACTS of a SETTLER: age, sons, coin, cattle, kin (1 or 0), board (1 or 0), as told (coin as it is now)");
         due.is("kin", holds(x, "kin > 0 and kin < 2"), true);
         due.is("board", holds(x, "board < 1"), true);
         due.says("(99 without one, or FARM)");
@@ -432,8 +459,10 @@ public final class EdgesOfLawTest {
         for (int what = 0; what <= 5; what++) {
             due.is("without a law", x.rules(0, what), 0);
         }
+        due.says("BY THE LAW in force: DUES: the sum of all dues that hold, and GAIN");
         Due.found(x, lines(20, "dues 99999"));
         due.is("the most", x.rules(0, 0), 20 * 99999);
+        due.says("VOTES: the sum of all votes that hold; FINE, MARK: likewise");
         Due.found(x, lines(20, "votes 99999"));
         due.is("the most", x.rules(0, 1), 20 * 99999);
         Due.found(x, lines(20, "fine 99999"));
@@ -477,6 +506,7 @@ public final class EdgesOfLawTest {
     private static void why() {
         due.says("WHY: the first LINE (from 0 on) of that kind that holds for it");
         SeaLand x = holder();
+        due.says("WHY, of what 0 dues, 1 gain, 2 votes, 3 fine, 4 mark, 5 call, 6 out; NONE. NoSuchElementException: another what");
         due.whats("why", 6, n -> x.why(0, n));
         due.indices("why", 1, s -> x.why(s, 0));
         due.wrongIndex("neither", () -> x.why(-1, 7));
@@ -542,6 +572,7 @@ public final class EdgesOfLawTest {
     private static void building() {
         due.says("MAY BUILD on a SQUARE: if it is not fewer steps than bar (the last such LINE; 0 without) from a DIKE or BREACH");
         SeaLand x = new SeaLand();
+        due.says("steps apart: along x and y together");
         due.indices("mayBuild", 96, s -> x.mayBuild(s));
         x.land(0, 12, 0, 0, 0);
         Due.found(x, "bar 18");

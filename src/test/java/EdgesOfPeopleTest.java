@@ -185,7 +185,8 @@ public final class EdgesOfPeopleTest {
     }
 
     private static void choosingFarms() {
-        due.says("takes of the FARMS that nobody has that of the greatest WORTH (of several the least number), as long as there are any");
+        due.says("each, in this order, takes of the FARMS that nobody has that of the greatest WORTH (of several the least number), "
+                + "as long as there are any: it is a HOLDER");
         SeaLand x = new SeaLand();
         x.land(0, 11, 0, 0, 0);
         x.land(2, 2, 0, 1, 0);
@@ -254,6 +255,7 @@ public final class EdgesOfPeopleTest {
     }
 
     private static void harvestOfAll() {
+        due.says("HARVEST: what all brought together; NONE, and nothing happens");
         due.says("each SQUARE of a FARM that a HOLDER has");
         SeaLand x = withFarms("", 3);
         settle(x, 0, 7, 0);

@@ -338,7 +338,7 @@ public final class EdgesOfPlansTest {
     }
 
     private static void orderWaits() {
-        due.says("a JOB is begun when its cost is there (and paid); years go by in whole ones, in each of which what is done brings first; "
+        due.says("and ACRES: one after the other, from so much coin: a JOB is begun when its cost is there (and paid); years go by in whole ones, in each of which what is done brings first; "
                 + "one waits as long as needed");
         due.is("its cost is there", lateness(10, new int[] {10, 3, 0, 1}), 3);
         due.none("one too few, and nothing comes", lateness(9, new int[] {10, 3, 0, 1}));

@@ -13,6 +13,7 @@ public final class EdgesOfRowsTest {
         checking();
         keeping();
         goingBack();
+        imageOfAll();
         whatStays();
         counts();
         due.end();
@@ -284,6 +285,38 @@ public final class EdgesOfRowsTest {
         }
         due.is("from the last hour", x.back(), true);
         due.is("the hour of then", x.hours(0), 3);
+    }
+
+    private static void imageOfAll() {
+        due.says("THE IMAGE (one) of all LAND, WORKS, HOUR, what is counted of water, RAIN, WIND, TIDE, STORMS");
+        SeaLand x = new SeaLand();
+        x.land(0, 95, -7, 2, 1);
+        for (int i = 0; i < 30; i++) {
+            x.mill(i, i + 12, 7, true);
+            x.coal(i, 100);
+            x.turn(i, true);
+        }
+        for (int i = 0; i < 60; i++) {
+            x.weather(true, i, i % 21);
+            x.weather(false, i, i % 10);
+        }
+        for (int i = 0; i < 20; i++) {
+            x.storm(i, i + 3, i + 1);
+        }
+        x.hours(40);
+        x.keep();
+        String then = withoutRows(Seen.all(x));
+        x.hours(100);
+        for (int i = 0; i < 30; i++) {
+            x.turn(i, false);
+        }
+        x.fill(95, 1, 1);
+        x.back();
+        due.is("thirty works, sixty tellings of each, twenty storms", withoutRows(Seen.all(x)).equals(then), true);
+        due.none("no storm more", x.storm(0, 0, 1));
+        due.none("no rain more", x.weather(true, 0, 1));
+        due.none("no wind more", x.weather(false, 0, 1));
+        due.tooMany("no work more", () -> x.mill(50, 51, 1, true));
     }
 
     private static void whatStays() {

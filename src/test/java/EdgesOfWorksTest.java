@@ -90,7 +90,7 @@ public final class EdgesOfWorksTest {
     }
 
     private static void limits() {
-        due.says("SEEP is above its LIMIT (told; 1 to 1000)");
+        due.says("It BREAKS in the first hour in which SEEP is above its LIMIT (told; 1 to 1000)");
         due.numbers("limit", 1, 1000, n -> withDike(0, 0, 5).dike(14, 15, 13, n));
         due.wrongNumber("of a square that is no land", () -> new SeaLand().dike(0, 1, 2, 0));
         for (int limit : new int[] {1, 2, 10, 1000}) {
@@ -142,6 +142,7 @@ public final class EdgesOfWorksTest {
 
     private static void layers() {
         due.says("LAYERS (at most 6, from below on): each THICK (1 to 300) and of CLAY 0 to 9");
+        due.says("IllegalArgumentException: THICK or CLAY are none; ClassCastException: it is no DIKE");
         due.numbers("thick", 1, 300, n -> withDike(0, 0, 5).layer(0, n, 0));
         due.numbers("clay", 0, 9, n -> withDike(0, 0, 5).layer(0, 1, n));
         SeaLand x = withDike(0, 0, 5);
@@ -182,7 +183,7 @@ public final class EdgesOfWorksTest {
     }
 
     private static void undersides() {
-        due.says("the sum of 10 less CLAY of all LAYERS whose underside is below the OUTSIDE, by 100, rounded down");
+        due.says("SEEP: HEAD times the sum of 10 less CLAY of all LAYERS whose underside is below the OUTSIDE, by 100, rounded down");
         // From -900 on: undersides -900, -800, -790; the land behind lies so low that the dike's height counts.
         SeaLand x = withDike(-900, -900, 1000);
         x.layer(0, 100, 0);
@@ -220,7 +221,7 @@ public final class EdgesOfWorksTest {
     }
 
     private static void seepAsked() {
-        due.says("(0 of a BREACH). IllegalArgumentException: OUTSIDE is not - 1000 to 1000; ClassCastException: it is neither");
+        due.says("What SEEP a DIKE would have with that OUTSIDE, and its LAND SQUARE as it is now (0 of a BREACH). IllegalArgumentException: OUTSIDE is not - 1000 to 1000; ClassCastException: it is neither");
         SeaLand x = withDike(0, 0, 1000);
         x.layer(0, 300, 0);
         due.numbers("outside", -1000, 1000, n -> x.seep(0, n));
@@ -229,6 +230,7 @@ public final class EdgesOfWorksTest {
         x.storm(1, 1, 301);
         x.hours(1);
         due.is("a breach", x.work(0, 0), 1);
+        due.says("of a BREACH there is no SEEP, but RUN");
         due.is("of a breach", x.seep(0, 1000), 0);
         due.numbers("outside of a breach", -1000, 1000, n -> x.seep(0, n));
     }
@@ -455,7 +457,7 @@ public final class EdgesOfWorksTest {
     }
 
     private static void sluices() {
-        due.says("if it is OPEN, and OUTSIDE is below its SQUARE's LEVEL: a quarter of the difference, rounded down, "
+        due.says("A SLUICE, from its SQUARE to a SEA SQUARE beside it: if it is OPEN, and OUTSIDE is below its SQUARE's LEVEL: a quarter of the difference, rounded down, "
                 + "and not more than the WATER, nor its GATE (1 to 60)");
         due.numbers("gate", 1, 60, n -> freshLand().sluice(40, 39, n));
         int[][] cases = {{100, 101, 50, 60, 0}, {100, 100, 50, 60, 0}, {100, 99, 50, 60, 0}, {100, 97, 50, 60, 0},
@@ -487,7 +489,7 @@ public final class EdgesOfWorksTest {
     }
 
     private static void turning() {
-        due.says("An ENGINE is ON, a SLUICE OPEN, or not: whether it was otherwise");
+        due.says("An ENGINE is ON, a SLUICE OPEN, or not: whether it was otherwise. ClassCastException: it is neither");
         SeaLand x = freshLand();
         x.mill(40, 41, 5, true);
         x.sluice(41, 42, 5);
@@ -563,7 +565,7 @@ public final class EdgesOfWorksTest {
                 due.is("work(" + work + ", " + what + ")", x.work(work, what), want[work][what]);
             }
         }
-        due.says("in the latest hour, 4 that in all hours");
+        due.says("3 what it brought in (DIKE, BREACH), LIFTED (MILL, ENGINE) or let out (SLUICE) in the latest hour, 4 that in all hours");
         x.fill(16, 0, 0);
         x.fill(18, 0, 0);
         x.fill(20, 0, 0);
