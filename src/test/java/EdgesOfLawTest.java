@@ -15,6 +15,7 @@ public final class EdgesOfLawTest {
         depth();
         wordsAndBlanks();
         firstWrongByte();
+        noOlderLines();
         foundingAndProposing();
         faults();
         comparisons();
@@ -339,6 +340,29 @@ public final class EdgesOfLawTest {
         wrong(" ".repeat(397) + "bar", 400);
     }
 
+    /** A law that is in force has no line of the one that was ahead of it. */
+    private static void noOlderLines() {
+        due.says("IN FORCE: none at first (no LINES); then the LAW that came last");
+        String[] heads = {"dues 9", "votes 9", "fine 9", "mark 9", "call", "out", "level 9 9 in 0 95", "pass 99", "bar 9"};
+        for (String head : heads) {
+            SeaLand x = new SeaLand();
+            x.settler(20, 0, 0, 0, false, false, 0);
+            x.land(0, 2, 0, 0, 0);
+            x.dike(0, 12, 1, 5);
+            String none = Seen.all(x);
+            Due.found(x, lines(20, head));
+            due.is("twenty lines", x.count(6), 20);
+            String twenty = Seen.all(x);
+            due.is("it says something", twenty.equals(none), false);
+            for (int i = 0; i < 4; i++) {
+                due.is("no lines", x.found(), 0);
+                due.is("none is left", Seen.all(x).equals(none), true);
+            }
+            Due.found(x, lines(20, head));
+            due.is("twenty lines again", Seen.all(x).equals(twenty), true);
+        }
+    }
+
     private static SeaLand holder() {
         SeaLand x = new SeaLand();
         x.land(0, 3, 0, 0, 0);
@@ -418,6 +442,10 @@ public final class EdgesOfLawTest {
             due.is(n + " > age", holds(x, n + ">age"), n > 30);
             due.is("sum < " + n, holds(x, "age+sons+coin+cattle+kin+board<" + n + "+59"), 89 < n + 59);
         }
+        due.is("less than 0 is nothing", holds(x, "age < 0"), false);
+        due.is("0 is more than nothing", holds(x, "0 > age"), false);
+        due.is("0 and 0", holds(x, "0 < 0 or 0 > 0"), false);
+        due.is("0 and a fact of 0", holds(x, "board < 0 or 0 < board"), false);
         due.says("SUM: PART { + PART }; PART: NUMBER | FACT. FACT: acres, gain, age, sons, coin, cattle, kin, board, near, owes");
         due.is("parts", holds(x, "acres+gain+age+sons+coin+cattle+kin+board+near+owes < 189"), true);
         due.is("parts", holds(x, "acres+gain+age+sons+coin+cattle+kin+board+near+owes > 187"), true);
