@@ -916,7 +916,8 @@ public final class SeaLand {
         }
 
         int saltGoingWith(int square, int n) {
-            return (int) ((long) salt[square] * n / (water[square] + 10));
+            int parts = water[square] + 10;
+            return parts <= 0 ? 0 : (int) ((long) salt[square] * n / parts);
         }
 
         void giveToSea(int square, int n) {
@@ -2232,13 +2233,15 @@ public final class SeaLand {
             tryOrders(0, 0, coin, 0, 0);
         }
 
-        // The orders are tried the least numbers first, so that of several alike the first stays.
+        // The orders are tried the least numbers first, so that of several alike the first stays;
+        // LATENESS never gets less by a further JOB, so what is no better already is left.
         private void tryOrders(int place, int year, long coin, int income, int late) {
+            if (bestLate != NONE && late >= bestLate) {
+                return;
+            }
             if (place >= jobs) {
-                if (bestLate == NONE || late < bestLate) {
-                    bestLate = late;
-                    System.arraycopy(trial, 0, best, 0, jobs);
-                }
+                bestLate = late;
+                System.arraycopy(trial, 0, best, 0, jobs);
                 return;
             }
             for (int job = 0; job < jobs; job++) {
