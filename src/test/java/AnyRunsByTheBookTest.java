@@ -13,7 +13,7 @@ public final class AnyRunsByTheBookTest {
     private static final int[] BESIDE = {-12, -1, 1, 12};
     private static final String[] FACTS = {"acres", "gain", "age", "sons", "coin", "cattle", "kin", "board", "near", "owes"};
     private static final int[] FACT_RANGE = {8, 300, 100, 21, 600, 101, 2, 2, 12, 200};
-    private static final String LAKE = "fill fill tide storm weather weather weather sky dike dike layer layer layer mill mill sluice "
+    private static final String LAKE = "land fill fill tide storm weather weather weather sky dike dike layer layer layer mill mill sluice "
             + "turn turn coal coal work seep shut hours hours hours hours square lifts soonest row tear check keep back count ";
     private static final String PEOPLE = "found propose propose vote vote vote close fault rules why lawLevel mayBuild settler settler farm "
             + "farm worth choose sow sow come harvest who arrears coin contract measure measure yards pay levels count ";
@@ -210,6 +210,8 @@ public final class AnyRunsByTheBookTest {
     private Object[] lakeArgs(String name) {
         int square = square();
         switch (name) {
+            case "land":
+                return new Object[] {square, square(), number(-900, 300), number(0, 2), number(0, 20)};
             case "fill":
                 return new Object[] {square, small(0, 900, 60), small(0, 100000, 6000)};
             case "tide":
